@@ -26,6 +26,7 @@ public final class PromisesTest {
         vanishesAndBumps();
         loud();
         loved();
+        lovedByTheLast();
         becomes();
         like();
         feeAndFine();
@@ -42,6 +43,7 @@ public final class PromisesTest {
         slots();
         check();
         checkAtTheLastDay();
+        fullTown();
         images();
         count();
         Due.ends();
@@ -136,6 +138,9 @@ public final class PromisesTest {
         x.one(1, 0, 10, 20, 3);
         Due.is("turns(0, 4)", x.turns(0, 4), 1);
         Due.is("turns(0, 4) again", x.turns(0, 4), 4);
+        Due.is("turns(0, 0)", x.turns(0, 0), 4);
+        Due.is("turns(0, 5)", x.turns(0, 5), 0);
+        Due.is("turns(0, 4) once more", x.turns(0, 4), 5);
         Due.is("turns(0, 6)", x.turns(0, 6), BAD);
         Due.is("turns(0, -1)", x.turns(0, -1), BAD);
         Due.is("turns(1, 0)", x.turns(1, 0), BAD);
@@ -166,6 +171,8 @@ public final class PromisesTest {
         Due.is("moves(0, -1)", x.moves(0, -1), BAD);
         Due.is("moves(2, 0)", x.moves(2, 0), BAD);
         Due.is("moves(0, 18)", x.moves(0, 18), 4);
+        Due.is("moves(0, 0)", x.moves(0, 0), 18);
+        Due.is("moves(0, 18) again", x.moves(0, 18), 0);
         Due.is("at(4)", x.at(4), NONE);
         Due.is("at(18)", x.at(18), 0);
         Due.is("at(5)", x.at(5), 1);
@@ -223,8 +230,23 @@ public final class PromisesTest {
         Due.is("in the next place", x.told(1, 1), (x.told(0, 1) + 1) % 20);
         Due.is("deal(8)", x.deal(8), 6);
         z = x.count(8);
+        dealsOfManySeeds();
         Due.is("deal without room", x.deal(1), 0);
         Due.is("no draws for others", x.count(8), z);
+    }
+
+    private static void dealsOfManySeeds() {
+        int[] by = {6, 20, 60, 30, 9}, more = {0, 0, 20, 0, -1};
+        for (int seed = 0; seed < 40; seed++) {
+            GlanceGrows x = new GlanceGrows();
+            x.seed(seed * 99991);
+            x.deal(1);
+            int z = seed * 99991;
+            for (int i = 0; i < 5; i++) {
+                z = next(z);
+                Due.is("draw " + i + " of seed " + seed, x.told(0, i), (z >>> 8) % by[i] + more[i]);
+            }
+        }
     }
 
     private static void dealWithoutPlaces() {
@@ -316,6 +338,9 @@ public final class PromisesTest {
         x.moves(1, 5);
         Due.is("rows do not go round", x.sees(0), 0);
         Due.is("a row", x.sees(1), 0b100);
+        for (int i = 0; i < 3; i++) { x.set(i, 2, 0); }
+        Due.is("of 0 SIZED ones both see", x.sees(1), 0b100);
+        Due.is("and look at nobody", x.looks(1), NONE);
     }
 
     private static void daysGrow() {
@@ -350,6 +375,15 @@ public final class PromisesTest {
         Due.is("200 at most", x.told(1, 2), 200);
         Due.is("town(5)", x.town(5), BAD);
         Due.is("town(-1)", x.town(-1), BAD);
+        GlanceGrows y = still();
+        y.rule(0, 3);
+        y.one(0, 0, 5, 0, -1);
+        y.days(1);
+        Due.is("as tall as CEILING is no bump", y.town(2), 0);
+        y.days(1);
+        Due.is("1 SIZED is not VANISHED", y.town(1), 0);
+        y.days(1);
+        Due.is("held at 0 is VANISHED", y.town(1), 1);
     }
 
     /** With MOVES and NOISES at 100 each day draws six times, with 0 twice; without PEOPLE twice. */
@@ -378,11 +412,39 @@ public final class PromisesTest {
         x.seed(5);
         x.days(1);
         Due.is("two draws", x.count(8), next(next(5)));
+        drawsBelowRules();
         for (int place = 0; place < 20; place++) { x.screen(place, 1); }
         x.rule(1, 100);
         int a = x.told(0, 1), b = x.told(1, 1);
         x.days(50);
         Due.is("screens keep them", x.told(0, 1) * 20 + x.told(1, 1), a * 20 + b);
+    }
+
+    /** Draws whose rest by 100 is just at, and just below, what is ruled. */
+    private static void drawsBelowRules() {
+        for (int seed = 0; seed < 60; seed++) {
+            int first = next(seed), second = next(first);
+            int a = (first >>> 8) % 100, b = (second >>> 8) % 100;
+            GlanceGrows x = new GlanceGrows();
+            x.one(5, 0, 50, 50, -1);
+            x.rule(1, a);
+            x.rule(2, b);
+            x.seed(seed);
+            x.days(1);
+            Due.is("at the rules two draws", x.count(8), second);
+            Due.is("NOISE stays", x.told(0, 3), 50);
+            x.rule(2, Math.min(100, b + 1));
+            x.seed(seed);
+            x.days(1);
+            Due.is("NOISES above it four draws", x.count(8), next(next(second)));
+            Due.is("NOISE drawn", x.told(0, 3), (x.count(8) >>> 8) % 30);
+            x.rule(1, Math.min(100, a + 1));
+            x.rule(2, 0);
+            x.seed(seed);
+            x.days(1);
+            Due.is("MOVES above it four draws", x.count(8), next(next(second)));
+            Due.is("PLACE drawn", x.told(0, 1), (next(second) >>> 8) % 20);
+        }
     }
 
     private static void lastDay() {
@@ -420,6 +482,10 @@ public final class PromisesTest {
         Due.is("no such PLACE", x.curtain(0, 0), NONE);
         Due.is("no such PLACE, how many", x.curtain(0, 1), NONE);
         Due.is("wrong ahead of none", x.curtain(0, 2), BAD);
+        GlanceGrows y = still();
+        y.one(0, 8, 10, 0, -1);
+        Due.is("of all the least", y.curtain(0, 0), 0);
+        Due.is("seat: of all the least", y.seat(0, 0), 0);
     }
 
     private static void seat() {
@@ -480,6 +546,17 @@ public final class PromisesTest {
         Due.is("KEEPER never", x.vanishes(3), NONE);
         x.set(3, 2, 0);
         Due.is("at once", x.vanishes(3), 0);
+        GlanceGrows late = still();
+        late.one(2, 0, 200, 0, -1);
+        late.one(0, 2, 101, 0, -1);
+        late.one(5, 1, 1, 0, -1);
+        late.one(5, 7, 150, 0, -1);
+        // 2 looks at the SPY on the first day, as it PULLS as much as 1, which grows; then at 1.
+        Due.is("unseen from the second day on", late.behind(2, 3), 199);
+        Due.is("gone behind 201 days is not by then", late.vanishes(0), NONE);
+        late.set(0, 2, 199);
+        late.set(1, 2, 100);
+        Due.is("gone behind 200", late.vanishes(0), 200);
         Due.is("vanishes(4)", x.vanishes(4), BAD);
         Due.is("vanishes(-1)", x.vanishes(-1), BAD);
         Due.is("above CEILING at once", x.bumps(0), 0);
@@ -522,7 +599,10 @@ public final class PromisesTest {
         Due.is("no other one, how tall", x.loved(0, 1, 1), NONE);
         Due.is("wrong ahead of that", x.loved(0, 0, 0), BAD);
         x.one(5, 19, 10, 0, -1);
+        Due.is("one other one", x.loved(0, 1, 0), 1);
+        Due.is("the other's other one", x.loved(1, 1, 0), 0);
         x.one(0, 5, 10, 0, -1);
+        Due.is("2 looks at 0 anyway: the least", x.loved(0, 2, 0), 1);
         x.one(0, 6, 50, 0, -1);
         Due.is("LOVED", x.loved(0, 2, 0), 2);
         Due.is("how tall", x.loved(0, 2, 1), 22);
@@ -531,6 +611,16 @@ public final class PromisesTest {
         Due.is("of several the least other one", x.loved(0, 60, 0), 2);
         int[][] bad = {{4, 1, 0}, {-1, 1, 0}, {0, 0, 0}, {0, 61, 0}, {0, 1, 2}, {0, 1, -1}};
         for (int[] b : bad) { Due.is("loved, wrong", x.loved(b[0], b[1], b[2]), BAD); }
+    }
+
+    private static void lovedByTheLast() {
+        GlanceGrows x = still();
+        x.one(0, 0, 20, 0, -1);
+        x.one(0, 8, 20, 0, -1);
+        x.one(0, 6, 30, 0, -1);
+        x.one(0, 5, 20, 0, -1);
+        Due.is("LOVED is the last", x.loved(0, 3, 0), 3);
+        Due.is("how tall", x.loved(0, 3, 1), 23);
     }
 
     private static void becomes() {
@@ -574,6 +664,11 @@ public final class PromisesTest {
         x.sheet(2, 0, 0);
         Due.is("an empty row", x.like(2, 0), 0);
         Due.is("an empty row's differences", x.like(2, 1), 0);
+        x.sheet(0, 0, 2);
+        x.mark(0, 0, 20);
+        x.mark(0, 1, 18);
+        Due.is("place 0 is now", x.like(0, 0), 0);
+        Due.is("no difference", x.like(0, 1), 0);
         Due.is("nothing changes", x.count(1), 0);
     }
 
@@ -595,6 +690,10 @@ public final class PromisesTest {
         Due.is("fine(0)", x.fine(0), 1619);
         Due.is("fine(1)", x.fine(1), 12);
         Due.is("fine(2) with a TEXT", x.fine(2), BAD);
+        GlanceGrows y = new GlanceGrows();
+        y.one(0, 9, 20, 31, -1);
+        Due.text(y, "fine p");
+        Due.is("fine by the first TEXT", y.fine(0), 9);
     }
 
     private static void tape() {
@@ -636,7 +735,8 @@ public final class PromisesTest {
             {"fine (1<2)<3", 0}, {"fine 1<2&2<3", 0}, {"fine 1<2|2<3", 0}, {"fine 1<2+2<3", -110}, {"fine !", -106},
             {"fine s!", -106}, {"fine s{", -106}, {"fine s\tp", -106}, {"fine s;", -106}, {"fee9", -103}, {"fee fee", -104},
             {"pull s&&n", -107}, {"pull s||n", -107}, {"pull s<=n", -107}, {"pull (s))", -108}, {"fine 1(2)", -106}, {"fine (1)(2)", -108},
-            {"fine (1)s", -108}, {"pull f*s", 0}, {"fine x", -105}, {"9", -100}, {"(", -100},
+            {"xull s", -100}, {"bee g", -100}, {"mine s", -100}, {"pulla", -100}, {"pullz s", -100}, {"pull`", -104}, {"pull {", -105},
+            {"fine 1/", -107}, {"fine 1:", -106}, {"fine 9", 0}, {"fine (1|0)", 0}, {"fine (1&0|1)", 0}, {"fine (1)s", -108}, {"pull f*s", 0}, {"fine x", -105}, {"9", -100}, {"(", -100},
         };
         for (Object[] d : due) {
             GlanceGrows x = new GlanceGrows();
@@ -663,6 +763,13 @@ public final class PromisesTest {
         Due.is("the last still counts", x.why(0), 3);
         Due.is("why(3)", x.why(3), BAD);
         Due.is("why(-1)", x.why(-1), BAD);
+        Due.is("a fault with NUMBERS ahead", Due.text(x, "fee 7+8*9+"), -110);
+        Due.is("a fault within brackets", Due.text(x, "fee ((7+!!!8"), -112);
+        Due.is("then a TEXT", Due.text(x, "fee 5"), 4);
+        Due.is("it has one NUMBER", x.textTold(4, 1), 1);
+        Due.is("and gives it", x.fee(), 5);
+        x = new GlanceGrows();
+        for (int i = 0; i < 4; i++) { Due.text(x, "fee 5"); }
         Due.is("textTold(4, 0)", x.textTold(4, 0), BAD);
         Due.is("textTold(-1, 0)", x.textTold(-1, 0), BAD);
         Due.is("textTold(0, 2)", x.textTold(0, 2), BAD);
@@ -690,7 +797,7 @@ public final class PromisesTest {
         Object[][] due = {
             {"1+2*3", 7}, {"(1+2)*3", 9}, {"10-4-3", 3}, {"100/7/2", 7}, {"7/0", 0}, {"0-7/2", -3}, {"(0-7)/2", -3}, {"2*3/4", 1},
             {"9/2*2", 8}, {"!0", 1}, {"!5", 0}, {"!!5", 1}, {"!0+1", 2}, {"!(0+1)", 0}, {"5&3", 1}, {"5&0", 0}, {"0|7", 1}, {"0|0", 0},
-            {"1|0&0", 1}, {"1<2", 1}, {"2<1", 0}, {"2>1", 1}, {"2=2", 1}, {"2=3", 0}, {"1+1=2", 1}, {"1=1+2", 0}, {"(2>1)+1", 2},
+            {"1|0&0", 1}, {"1<2", 1}, {"2<1", 0}, {"2>1", 1}, {"2=2", 1}, {"2=3", 0}, {"2<2", 0}, {"2>2", 0}, {"1>2", 0}, {"(0|2)*7", 7}, {"0&1|1", 1}, {"1+1=2", 1}, {"1=1+2", 0}, {"(2>1)+1", 2},
             {"5", 5}, {"0005", 5}, {"1-2<0&3", 1}, {"1&2=2", 1}, {"9999*9999", 99980001}, {"9999*9999*9999", 9999 * 9999 * 9999},
             {"(0-8*8*8*8*8*8*8*8*8*8*2)/(0-1)", LEAST},
         };
@@ -725,10 +832,30 @@ public final class PromisesTest {
         Due.is("by s", x.looks(0), 2);
         Due.text(x, "pull f");
         Due.is("by f", x.looks(0), 1);
+        x.moves(1, 1);
+        x.moves(2, 10);
+        Due.is("by f, in the column", x.looks(0), 2);
+        x.moves(0, 13);
+        x.moves(1, 11);
+        Due.is("2 FAR and 3 FAR", x.looks(0), 2);
+        Due.text(x, "pull (f=3)*100+(f=2)*101");
+        Due.is("FAR as it is", x.looks(0), 1);
+        x.moves(0, 16);
+        Due.is("in another row", x.sees(0), 0b10);
+        Due.text(x, "pull f=1");
+        x.moves(0, 12);
+        Due.is("1 FAR", x.looks(0), 1);
+        x.moves(0, 0);
+        x.moves(1, 4);
+        x.moves(2, 5);
         Due.text(x, "pull 0-f");
         Due.is("held at 0: the least", x.looks(0), 1);
         Due.text(x, "pull s*10");
         Due.is("held at 499: the least", x.looks(0), 1);
+        Due.text(x, "pull 498+(s=60)");
+        Due.is("498 and 499", x.looks(0), 2);
+        Due.text(x, "pull 499+(s=60)");
+        Due.is("499 and 500, held", x.looks(0), 1);
         Due.text(x, "pull s*9+n");
         Due.is("459 below 499", x.looks(0), 2);
         x.turns(1, 1);
@@ -780,6 +907,7 @@ public final class PromisesTest {
         x.sheet(0, 0, 24);
         x.lay(0, 2, 0);
         Due.is("all 0 again", x.item(0, 23), 0);
+        Due.is("the first, too", x.item(0, 0), 0);
     }
 
     private static void pour() {
@@ -827,6 +955,8 @@ public final class PromisesTest {
         Due.is("MISSING", x.copy(0, 0, 1, 0, 0), NOTHING);
         Due.is("copy to 4", x.copy(0, 0, 4, 0, 0), BAD);
         Due.is("copy from -1", x.copy(-1, 0, 1, 0, 0), BAD);
+        Due.is("copy from 4", x.copy(4, 0, 1, 0, 0), BAD);
+        Due.is("copy to -1", x.copy(1, 0, -1, 0, 0), BAD);
         x.sheet(0, 1, 4);
         x.sheet(1, 1, 6);
         x.sheet(2, 0, 4);
@@ -901,6 +1031,12 @@ public final class PromisesTest {
         Due.is("lay nothing", x.lay(0, 0, 99), 3);
         Due.is("nothing then", x.rest(0, 1), NOTHING);
         Due.is("nothing held", x.lay(0, 0, -5), 0);
+        x.sheet(3, 0, 1);
+        Due.is("the last SHEET in the last SLOT", x.lay(4, 2, 3), 0);
+        Due.is("ask it", x.ask(4, 0), KIND);
+        x.turns(0, 5);
+        Due.is("a KEEPER in the last SLOT", x.lay(4, 1, 0), 2);
+        Due.is("ask as KEEPER", x.ask(4, 5), 3);
     }
 
     private static GlanceGrows pair() {
@@ -961,6 +1097,33 @@ public final class PromisesTest {
         x.keep();
         Due.is("no DAYS are left", tells(x, 5), 0);
         Due.is("all are too many", tells(x, 5, 0), 1);
+    }
+
+    /** Eight KEEPERS, the most there can be. */
+    private static void fullTown() {
+        GlanceGrows x = still();
+        int[] places = {0, 1, 7, 8, 14, 9, 15, 16};
+        for (int i = 0; i < 8; i++) { Due.is("one more", x.one(5, places[i], 10 + i, 0, -1), i); }
+        Due.is("SIZED together", x.town(3), 108);
+        Due.is("all look", x.days(1), 8);
+        Due.is("11 SIZED, 1 FAR draws more than 16 SIZED, 3 FAR", x.looks(0), 1);
+        Due.is("17 SIZED, 3 FAR draws more than 10 SIZED, 1 FAR", x.looks(1), 7);
+        Due.is("those at 7", x.eyes(7), 0b1000010);
+        Due.is("behind", x.behind(2, 10), 17);
+        Due.is("curtain", x.curtain(7, 1), 1);
+        Due.is("loved by the least", x.loved(7, 3, 0), 0);
+        x.sheet(0, 0, 2);
+        x.mark(0, 0, 17);
+        x.mark(0, 1, 17);
+        Due.is("like the last", x.like(0, 0), 7);
+        StringBuilder all = new StringBuilder("fine 1");
+        while (all.length() < 96) { all.append("+1"); }
+        Due.is("96 bytes of a TEXT", Due.text(x, all.toString()), 0);
+        Due.is("how many NUMBERS", x.textTold(0, 1), 46);
+        Due.is("what it gives", x.fine(7), 46);
+        x.keep();
+        Due.is("check", tells(x, 1, 16, 108), 0);
+        Due.is("back()", x.back(), 8);
     }
 
     private static void images() {
