@@ -499,10 +499,7 @@ public final class GlanceGrows {
     }
 
     public int ask(int slot, int kind) {
-        if (!isWithin(slot, 0, SLOTS - 1) || !isWithin(kind, 0, KINDS - 1)) {
-            return BAD;
-        }
-        int finding = slotFinding(slot, HOLDS_ONE);
+        int finding = isWithin(kind, 0, KINDS - 1) ? slotFinding(slot, HOLDS_ONE) : BAD;
         if (finding != 0) {
             return finding;
         }

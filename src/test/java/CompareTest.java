@@ -2,7 +2,7 @@ import java.util.Random;
 
 /** Many runs of calls drawn by lot (always the same ones), each answer compared with that of PlainTown. */
 public final class CompareTest {
-    private static final int RUNS = 1500;
+    private static final int RUNS = 300;
     private static final int[] ODD = {-1, 0, 1, 7, 8, 19, 20, 24, 25, 50, 51, 60, 61, 100, 101, 200, 201, 9999,
         99999, 100000, -99999, -100000, 32768, -32769, Integer.MAX_VALUE, Integer.MIN_VALUE, GlanceGrows.NONE};
 

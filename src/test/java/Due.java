@@ -1,7 +1,14 @@
+import java.nio.file.Files;
+import java.nio.file.Path;
+import java.util.ArrayList;
+import java.util.List;
+
 /** Counts and prints the answers that are not the ones that are due. */
 final class Due {
     private static int asked = 0;
     private static int wrong = 0;
+    private static String sentence = "";
+    private static final List<String[]> SENTENCES = new ArrayList<>();
 
     private Due() { }
 
@@ -9,7 +16,36 @@ final class Due {
         asked++;
         if (got != want) {
             wrong++;
-            System.out.println(call + " answered " + got + ", due is " + want);
+            System.out.println(sentence + call + " answered " + got + ", due is " + want);
+        }
+    }
+
+    /** What is asked from here on tests this sentence, which stands in that part (0: ahead of the promises) of the document. */
+    static void sentence(int promise, String words) {
+        sentence = (promise == 0 ? "terms" : "promise " + promise) + ", '" + words + "': ";
+        SENTENCES.add(new String[] {String.valueOf(promise), words});
+    }
+
+    /** Whether the sentences stand in the document as they are quoted, in the parts that are named. */
+    static void sentencesStand(Path document) throws java.io.IOException {
+        sentence = "";
+        if (!Files.exists(document)) {
+            System.out.println("without " + document + " the quotes are not looked up");
+            return;
+        }
+        String all = Files.readString(document).replace("&amp;", "&").replace("&lt;", "<").replace("&gt;", ">");
+        String[] parts = all.split("## Promise [0-9]+: ");
+        for (String[] s : SENTENCES) {
+            int part = Integer.parseInt(s[0]);
+            holds("'" + s[1] + "' stands in part " + part, part < parts.length && parts[part].contains(s[1]));
+        }
+    }
+
+    /** Whether there is a sentence of every one of the promises. */
+    static void promisesHaveSentences(int first, int last) {
+        for (int p = first; p <= last; p++) {
+            String promise = String.valueOf(p);
+            holds("promise " + p + " has a test", SENTENCES.stream().anyMatch(s -> s[0].equals(promise)));
         }
     }
 
