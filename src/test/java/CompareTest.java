@@ -40,7 +40,8 @@ public final class CompareTest {
         if (style == 1) {
             longDays();
         }
-        while (calls < 512 && same) {
+        // One turn makes up to some 65 calls, and an object is good for 512.
+        while (calls < 512 - 70 && same) {
             int pick = lot.nextInt(style == 2 ? 60 : 52);
             if (pick < 11) { people(pick); }
             else if (pick < 18) { looking(pick - 11); }
@@ -71,7 +72,7 @@ public final class CompareTest {
         return least + lot.nextInt(most - least + 1) + (lot.nextInt(30) == 0 ? lot.nextInt(3) - 1 : 0);
     }
 
-    private int who() { return v(0, Math.max(0, x.count(0) - 1)); }
+    private int who() { return v(0, Math.max(0, y.count(0) - 1)); }
 
     private int size() { return lot.nextInt(3) == 0 ? v(0, 12) : v(0, 200); }
 
@@ -122,7 +123,7 @@ public final class CompareTest {
         switch (pick) {
             case 0: b = v(0, 1); said("curtain", x.curtain(a, b), y.curtain(a, b), a, b); break;
             case 1: b = v(0, 1); said("seat", x.seat(a, b), y.seat(a, b), a, b); break;
-            case 2: a = lot.nextInt(4) == 0 ? v(0, 100) : v(0, 8); b = v(0, 2 + x.count(0)); said("behind", x.behind(a, b), y.behind(a, b), a, b); break;
+            case 2: a = lot.nextInt(4) == 0 ? v(0, 100) : v(0, 8); b = v(0, 2 + y.count(0)); said("behind", x.behind(a, b), y.behind(a, b), a, b); break;
             case 3: if (lot.nextInt(3) == 0) { said("vanishes", x.vanishes(a), y.vanishes(a), a); } break;
             case 4: if (lot.nextInt(3) == 0) { said("bumps", x.bumps(a), y.bumps(a), a); } break;
             case 5: b = far(); c = v(0, 1); said("loud", x.loud(a, b, c), y.loud(a, b, c), a, b, c); break;
@@ -245,7 +246,7 @@ public final class CompareTest {
         if (lot.nextInt(3) == 0) { said("pour", x.pour(a), y.pour(a), a); }
         if (lot.nextInt(3) == 0) {
             for (int i = 0; i < 4; i++) {
-                int p = Math.max(-1, x.told(i, 1));
+                int p = Math.max(-1, y.told(i, 1));
                 said("mark", x.mark(a, i, p), y.mark(a, i, p), a, i, p);
                 said("reads", x.reads(a), y.reads(a), a);
             }
@@ -271,8 +272,8 @@ public final class CompareTest {
         int n = lot.nextInt(10) == 0 ? 30 : 1 + lot.nextInt(5);
         for (int k = 1; k <= n; k++) {
             int together = 0;
-            for (int i = 0; i < x.count(0); i++) { together += x.behind(k, 3 + i); }
-            int glances = x.behind(k, 0);
+            for (int i = 0; i < y.count(0); i++) { together += y.behind(k, 3 + i); }
+            int glances = y.behind(k, 0);
             if (lot.nextInt(12) == 0) { glances++; }
             if (lot.nextInt(12) == 0) { together--; }
             said("tell", x.tell(glances), y.tell(glances), glances);

@@ -595,6 +595,13 @@ public final class EdgesOfPromisesTest {
         GlanceGrows x = new GlanceGrows();
         Due.is("an empty tape", x.text(), -100);
         Due.is("a FAULT", Due.text(x, "fee 1 1"), -106);
+        for (String faulty : new String[] {"fee !3+", "fee 1+!3)", "fee !!3+!4*", "fee 1*2*3*4 5"}) {
+            GlanceGrows y = new GlanceGrows();
+            Due.is("a FAULT at the end of '" + faulty + "'", Due.text(y, faulty) <= -107 ? 1 : 0, 1);
+            Due.is("then a TEXT", Due.text(y, "fee 7"), 0);
+            Due.is("of which nothing of the other is a part", y.fee(), 7);
+            Due.is("nor counts", y.textTold(0, 1), 1);
+        }
         for (int i = 0; i < 14; i++) { Due.is("text " + i, Due.text(x, "fine " + i), i); }
         Due.is("FULL", Due.text(x, "fine 77"), FULL);
         Due.is("a FAULT ahead of FULL", Due.text(x, "fine 77 77"), -108);
