@@ -96,7 +96,7 @@ public final class LanguageTest {
         Due.text(x, "pull s*2+n-f");
         calls(x);
         long was = bean.getThreadAllocatedBytes(id);
-        for (int i = 0; i < 30; i++) { calls(x); }
+        for (int i = 0; i < 20; i++) { calls(x); }
         long made = bean.getThreadAllocatedBytes(id) - was;
         Due.holds("calls make next to nothing (" + made + " bytes)", made < 20000);
     }
