@@ -1180,7 +1180,7 @@ public final class GlanceGrows {
             return sort == SIGN && tape[first] > 0 && signsOf(level).indexOf((char) tape[first]) >= 0;
         }
 
-        void level(int level, Text text) {
+        private void level(int level, Text text) {
             if (level >= PIECE) {
                 piece(text);
                 return;
@@ -1195,7 +1195,7 @@ public final class GlanceGrows {
             }
         }
 
-        void piece(Text text) {
+        private void piece(Text text) {
             if (sort == DIGITS && beyond - first <= DIGITS_MOST) {
                 leaf(text, number());
             } else if (sort == LETTERS && nameOf(text.key) >= 0) {
